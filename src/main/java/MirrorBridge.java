@@ -226,20 +226,15 @@ public final class MirrorBridge {
         if (!state.hasUnknown(i)) {
             throw new IndexOutOfBoundsException("no such unknown resistor");
         }
-        int ohms = state.ohmsOf(i);
-        int bestP = 0;
-        int bestQ = 0;
-        for (int p = 0; p <= 3; p++) {
-            for (int q = 0; q <= 3; q++) {
-                boolean fits = ohms * power(q) <= MAX_OHMS * power(p);
-                // Q / P > best Q / best P; the ohms are the same on both sides
-                if (fits && power(q) * power(bestP) > power(bestQ) * power(p)) {
-                    bestP = p;
-                    bestQ = q;
-                }
+        // X itself is at most 9999, so that the best Q / P is at least 1; among
+        // the arms with this Q / P, those with the index 0 of P are told
+        int q = 0;
+        for (int next = 1; next <= 3; next++) {
+            if (state.ohmsOf(i) * power(next) <= MAX_OHMS) {
+                q = next;
             }
         }
-        return 10 * bestP + bestQ;
+        return q;
     }
 
     public int enoughShunt() {

@@ -205,6 +205,8 @@ final class ScriptsTest {
         due(x, 1, 92007, 0);
         due(x, 1, 92099, 0);
         due(x, 1, 90107, 0);
+        due(Check.bridge(USUAL), 1, 90000, ALL);
+        due(Check.bridge(USUAL), 1, 90100, 0);
         due(x, 1, 90199, 0);
         due(x, 1, 91107, 0);
         x.press(false);

@@ -142,6 +142,9 @@ final class ValuesTest {
         C.due("sensitivity() of a new object", new MirrorBridge().sensitivity(), 1);
         // R = 0: 500000, 499333
         C.due("sensitivity() at 0", Check.bridge("G220000100+0004x1500").sensitivity(), 667);
+        // R = 0: 1/2 of 100000; R = 1: 1/6 of it; R = -1, which the box has not, would be 3/2 of it
+        C.due("sensitivity() at 0 and 2 ohms", Check.bridge("G220000010+0004x0002").sensitivity(), 50000 - 16666);
+        C.due("sensitivity() of nothing", Check.bridge("G229999013+0004x9999").sensitivity(), 0);
         // R = 9999: -369553; R = 9998: -369542
         C.due("sensitivity() at 9999", Check.bridge("G229999100+0004x1500").sensitivity(), 11);
         // R = 1: 0; R = 2: -1/6; R = 0: 1/2 of 100000
