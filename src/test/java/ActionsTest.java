@@ -148,12 +148,12 @@ final class ActionsTest {
     }
 
     private static void set() {
-        MirrorBridge x = new MirrorBridge();
         int[] least = {0, 0, 0, 1, 0, -50, 0};
         int[] greatest = {3, 3, 9999, 99, 3, 50, 20};
         int[] first = {2, 2, 1000, 10, 3, 0, 4};
         for (int what = 0; what <= 6; what++) {
             int w = what;
+            MirrorBridge x = new MirrorBridge();
             C.due("set(" + w + ", least)", x.set(w, least[w]), first[w]);
             C.due("about(" + w + ")", x.about(w), least[w]);
             C.due("set(" + w + ", greatest)", x.set(w, greatest[w]), least[w]);
@@ -163,8 +163,9 @@ final class ActionsTest {
                 C.refused(x, "set(" + w + ", " + v + ")", IllegalArgumentException.class, () -> x.set(w, v));
             }
             C.due("set(" + w + ") back", x.set(w, first[w]), greatest[w]);
+            C.allAbout("the number set back", x, 2, 2, 1000, 10, 3, 0, 4, 0, 0, 0, 1, 0, 0, 0, 0, 0);
         }
-        C.allAbout("all numbers set back", x, 2, 2, 1000, 10, 3, 0, 4, 0, 0, 0, 1, 0, 0, 0, 0, 0);
+        MirrorBridge x = new MirrorBridge();
         C.refused(x, "set(-1, 1)", IllegalArgumentException.class, () -> x.set(-1, 1));
         C.refused(x, "set(7, 1)", IllegalArgumentException.class, () -> x.set(7, 1));
         C.refused(x, "set(12, 1)", IllegalArgumentException.class, () -> x.set(12, 1));

@@ -3,6 +3,8 @@ import java.util.function.IntSupplier;
 /** Counts the answers that are due and those that are not, and makes bridges for tests. */
 final class Check {
     private final String name;
+    private String sentence = "";
+    private int sentences;
     private int right;
     private int wrong;
 
@@ -10,12 +12,32 @@ final class Check {
         this.name = name;
     }
 
+    /** One sentence of the document, where it stands there, and the test that fails if it is broken. */
+    void sentence(String place, String words, Runnable test) {
+        sentence = place + ", \"" + words + "\": ";
+        int ahead = right + wrong;
+        try {
+            test.run();
+        } catch (RuntimeException e) {
+            fails("the test ended with " + e);
+        }
+        if (right + wrong == ahead) {
+            fails("the test looked at no answer");
+        }
+        sentence = "";
+        sentences++;
+    }
+
+    private void fails(String what) {
+        wrong++;
+        System.out.println(name + ": " + sentence + what);
+    }
+
     void due(String call, long got, long want) {
         if (got == want) {
             right++;
         } else {
-            wrong++;
-            System.out.println(name + ": " + call + " answered " + got + ", due is " + want);
+            fails(call + " answered " + got + ", due is " + want);
         }
     }
 
@@ -23,22 +45,40 @@ final class Check {
         if (got.equals(want)) {
             right++;
         } else {
-            wrong++;
-            System.out.println(name + ": " + call + " told\n  " + got + ", due is\n  " + want);
+            fails(call + " told\n  " + got + ", due is\n  " + want);
         }
     }
 
-    /** The call must throw just this exception and change nothing that can be seen. */
+    /** The call must throw just this exception and change none of the numbers of the bridge. */
     void refused(MirrorBridge x, String call, Class<?> due, IntSupplier made) {
-        String ahead = seen(x);
-        String thrown = "nothing";
+        String ahead = numbers(x);
+        same(call + " throws", answer(made), due.getName());
+        same("the numbers after " + call, numbers(x), ahead);
+    }
+
+    /** What a call answers: a number, or the name of the exception that it throws. */
+    static String answer(IntSupplier made) {
         try {
-            made.getAsInt();
+            return String.valueOf(made.getAsInt());
         } catch (RuntimeException e) {
-            thrown = e.getClass().getName();
+            return e.getClass().getName();
         }
-        same(call + " throws", thrown, due.getName());
-        same("what is seen after " + call, seen(x), ahead);
+    }
+
+    /** The call behind this run must throw just this exception, and no later call may show that it was made. */
+    void refusedAfter(String call, Class<?> due, Scene.Calls run, Scene.Call made) {
+        MirrorBridge x = Scene.after(run);
+        same(call + " throws", answer(() -> made.on(x)), due.getName());
+        unchanged(call, run, made);
+    }
+
+    /** No later call may show that this call was made behind this run, whether it answers or throws. */
+    void unchanged(String call, Scene.Calls run, Scene.Call made) {
+        Scene.Calls both = x -> {
+            run.on(x);
+            answer(() -> made.on(x));
+        };
+        same("what later calls show after " + call, Scene.shown(both), Scene.shown(run));
     }
 
     /** The answers of about(0), about(1) and so on. */
@@ -56,12 +96,18 @@ final class Check {
         due("told(" + j + ", 3)", x.told(j, 3), clock);
     }
 
-    /** All that the calls without effects tell of a bridge. */
-    static String seen(MirrorBridge x) {
+    /** The answers of about() alone: 16 calls. */
+    static String numbers(MirrorBridge x) {
         StringBuilder s = new StringBuilder();
         for (int what = 0; what <= 15; what++) {
             s.append(x.about(what)).append(' ');
         }
+        return s.toString();
+    }
+
+    /** All that the calls without effects tell of a bridge: up to 114 calls of the 512 that an object is good for. */
+    static String seen(MirrorBridge x) {
+        StringBuilder s = new StringBuilder(numbers(x));
         for (int what = 0; what <= 4; what++) {
             s.append(x.bridge(what)).append(' ');
         }
@@ -92,7 +138,8 @@ final class Check {
     }
 
     void end() {
-        System.out.println(name + ": " + right + " answers as due, " + wrong + " not");
+        System.out.println(name + ": " + (sentences > 0 ? sentences + " sentences, " : "")
+                + right + " answers as due, " + wrong + " not");
         if (wrong != 0 || right == 0) {
             System.exit(1);
         }

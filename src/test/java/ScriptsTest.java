@@ -27,7 +27,6 @@ final class ScriptsTest {
     }
 
     private static void arguments() {
-        MirrorBridge x = Check.bridge(USUAL);
         long[][] wrong = {
             {0, 0}, {4, 71000}, {-1, 0}, {Integer.MIN_VALUE, 0}, {Integer.MAX_VALUE, 0},
             {1, -1}, {1, 100000}, {1, Long.MAX_VALUE}, {1, Long.MIN_VALUE},
@@ -35,9 +34,11 @@ final class ScriptsTest {
             {3, -1}, {3, 1000000000000000L}, {3, Long.MAX_VALUE}, {3, Long.MIN_VALUE},
         };
         for (long[] w : wrong) {
-            C.refused(x, "runScript(" + w[0] + ", " + w[1] + ")", IllegalArgumentException.class,
-                    () -> x.runScript((int) w[0], w[1]));
+            MirrorBridge y = Check.bridge(USUAL);
+            C.refused(y, "runScript(" + w[0] + ", " + w[1] + ")", IllegalArgumentException.class,
+                    () -> y.runScript((int) w[0], w[1]));
         }
+        MirrorBridge x = Check.bridge(USUAL);
         due(x, 1, 0, 0);
         due(x, 2, 0, 0);
         due(x, 3, 0, 0);

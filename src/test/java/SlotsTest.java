@@ -4,6 +4,7 @@ final class SlotsTest {
 
     public static void main(String[] args) {
         saveAndRestore();
+        noSuchSlot();
         emptySlots();
         remembered();
         C.end();
@@ -21,9 +22,9 @@ final class SlotsTest {
 
     private static void saveAndRestore() {
         MirrorBridge x = used();
-        String first = Check.seen(x);
+        String first = Check.numbers(x);
         C.due("save(0)", x.save(0), 24);
-        C.same("what is seen after save(0)", Check.seen(x), first);
+        C.same("what is seen after save(0)", Check.numbers(x), first);
         x.free();
         x.choose(1);
         x.add(5);
@@ -35,20 +36,20 @@ final class SlotsTest {
         x.set(5, -40);
         x.set(6, 13);
         x.pair();
-        String second = Check.seen(x);
+        String second = Check.numbers(x);
         C.due("save(1)", x.save(1), 31);
         x.balance();
         C.due("restore(0)", x.restore(0), 24);
-        C.same("what is seen after restore(0)", Check.seen(x), first);
+        C.same("what is seen after restore(0)", Check.numbers(x), first);
         C.due("restore(1)", x.restore(1), 31);
-        C.same("what is seen after restore(1)", Check.seen(x), second);
+        C.same("what is seen after restore(1)", Check.numbers(x), second);
         x.pair();
         x.pause(100);
         // the slots keep what is in them
         C.due("restore(1) again", x.restore(1), 31);
-        C.same("what is seen after restore(1) again", Check.seen(x), second);
+        C.same("what is seen after restore(1) again", Check.numbers(x), second);
         C.due("restore(0) again", x.restore(0), 24);
-        C.same("what is seen after restore(0) again", Check.seen(x), first);
+        C.same("what is seen after restore(0) again", Check.numbers(x), first);
         x.pause(1);
         C.due("save(0) again", x.save(0), 25);
         x.pause(1);
@@ -57,7 +58,11 @@ final class SlotsTest {
         C.due("length of the text", x.clearText(), 25);
         C.due("restore(1)", x.restore(1), 31);
         C.due("length of the text", x.clearText(), 0);
+    }
+
+    private static void noSuchSlot() {
         for (int slot : new int[] {-1, 2, Integer.MIN_VALUE, Integer.MAX_VALUE}) {
+            MirrorBridge x = used();
             C.refused(x, "save(" + slot + ")", IndexOutOfBoundsException.class, () -> x.save(slot));
             C.refused(x, "restore(" + slot + ")", IndexOutOfBoundsException.class, () -> x.restore(slot));
         }

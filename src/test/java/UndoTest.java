@@ -71,11 +71,11 @@ final class UndoTest {
 
     private static void callsThatAreNoActions() {
         MirrorBridge x = stuck();
-        String ahead = Check.seen(x);
+        String ahead = Check.numbers(x);
         x.undo();
-        String before = Check.seen(x);
+        String before = Check.numbers(x);
         x.press(false);
-        C.same("the press again", Check.seen(x), ahead);
+        C.same("the press again", Check.numbers(x), ahead);
         x.append('G');
         x.save(1);
         x.value(0);
@@ -95,26 +95,21 @@ final class UndoTest {
         C.refused(x, "add(0)", IllegalArgumentException.class, () -> x.add(0));
         C.due("length of the text", x.clearText(), 26);
         C.due("undo() of the press alone", x.undo(), 13);
-        C.same("what is seen then", withoutText(Check.seen(x)), withoutText(before));
+        C.same("the numbers then", Check.numbers(x), before);
         C.due("length of the text is no state", x.clearText(), 0);
-    }
-
-    /** All but the error position at the end. */
-    private static String withoutText(String seen) {
-        return seen.substring(0, seen.lastIndexOf(' '));
     }
 
     private static void fourteenStates() {
         MirrorBridge x = new MirrorBridge();
-        List<String> seen = new ArrayList<>();
+        List<Integer> clocks = new ArrayList<>();
         for (int round = 0; round < 3; round++) {
             for (int i = 0; i < 17; i++) {
-                seen.add(Check.seen(x));
+                clocks.add(x.about(9));
                 x.press(i % 3 == 0);
             }
             for (int left = 13; left >= 0; left--) {
                 C.due("undo()", x.undo(), left);
-                C.same("what is seen", Check.seen(x), seen.remove(seen.size() - 1));
+                C.due("clock", x.about(9), clocks.remove(clocks.size() - 1));
             }
             C.refused(x, "undo() of a forgotten state", IllegalStateException.class, x::undo);
             x.pause(round + 1);
